@@ -83,7 +83,6 @@ public final class NoonLaw {
     private final int[] refused = new int[PARTED + 1];
     private final int[] bannedHours = new int[MATTERS];
     private final int[] biddenHours = new int[MATTERS];
-    private final boolean[] failing = new boolean[1 << DREAMS];
 
     public NoonLaw() {
         for (int i = 0; i < SHEETS; i++) {
@@ -635,27 +634,23 @@ public final class NoonLaw {
         }
     }
 
+    /**
+     * A DREAM that outweighs the whole other side must be part of every set that does, whatever else
+     * is in it: so what must be grows from nothing, and is the one least set when it grows no more.
+     */
     private int fewestForgotten(int matter, int n) {
-        int concerned = realm.concerning(matter);
-        int sets = 1 << realm.dreamCount;
-        for (int set = 0; set < sets; set++) {
-            // a set with a dream that changes nothing has a smaller one that does as well
-            failing[set] = (set & ~concerned) != 0;
-        }
-        for (int i = 0; i < n; i++) {
-            sight.look(realm, realm.hour + i);
-            boolean asked = (sight.inForce & concerned) != 0;
-            for (int set = 0; asked && set < sets; set++) {
-                failing[set] = failing[set] || !sight.isFreeWithout(realm, matter, set);
+        int set = 0;
+        for (int round = 0; round <= DREAMS; round++) {
+            int before = set;
+            for (int i = 0; i < n; i++) {
+                sight.look(realm, realm.hour + i);
+                set |= sight.outweighing(realm, matter, set);
+            }
+            if (set == before) {
+                return set;
             }
         }
-        int fewest = concerned;
-        for (int set = sets - 1; set >= 0; set--) {
-            if (!failing[set] && Integer.bitCount(set) <= Integer.bitCount(fewest)) {
-                fewest = set;
-            }
-        }
-        return fewest;
+        return set;
     }
 
     /** The greatest number that divides both; b is above 0, so the answer is, too. */
@@ -830,17 +825,6 @@ public final class NoonLaw {
             return peopleCount - 1;
         }
 
-        /** The DREAMS of a MATTER that are not FORGOTTEN. */
-        int concerning(int matter) {
-            int set = 0;
-            for (int i = 0; i < dreamCount; i++) {
-                if (dreams[i].matter == matter && dreams[i].forgotten == 0) {
-                    set |= 1 << i;
-                }
-            }
-            return set;
-        }
-
         int gives(int use, int a, int b, int c) {
             Text it = texts[use];
             if (use == FINE) {
@@ -947,21 +931,34 @@ public final class NoonLaw {
             return Integer.bitCount(banned & wont) + Integer.bitCount(bidden & ~wont);
         }
 
-        boolean isFreeWithout(Realm realm, int matter, int set) {
-            int left = inForce & ~set;
-            int mostBid = NO_WEIGHT;
-            int mostBan = NO_WEIGHT;
+        /** The DREAMS of a MATTER, but for a set, that are heavier than all of the other side. */
+        int outweighing(Realm realm, int matter, int set) {
+            int mostBid = heaviest(realm, matter, 1, set);
+            int mostBan = heaviest(realm, matter, 0, set);
+            int found = 0;
             for (int i = 0; i < realm.dreamCount; i++) {
                 Dream it = realm.dreams[i];
-                if ((left >> i & 1) != 0 && it.matter == matter) {
-                    if (it.bids == 1) {
-                        mostBid = Math.max(mostBid, weights[i]);
-                    } else {
-                        mostBan = Math.max(mostBan, weights[i]);
-                    }
+                int against = it.bids == 1 ? mostBan : mostBid;
+                if (isLeft(i, set) && it.matter == matter && weights[i] > against) {
+                    found |= 1 << i;
                 }
             }
-            return mostBid == mostBan;
+            return found;
+        }
+
+        private int heaviest(Realm realm, int matter, int bids, int set) {
+            int most = NO_WEIGHT;
+            for (int i = 0; i < realm.dreamCount; i++) {
+                Dream it = realm.dreams[i];
+                if (isLeft(i, set) && it.matter == matter && it.bids == bids) {
+                    most = Math.max(most, weights[i]);
+                }
+            }
+            return most;
+        }
+
+        private boolean isLeft(int dream, int set) {
+            return ((inForce & ~set) >> dream & 1) != 0;
         }
     }
 

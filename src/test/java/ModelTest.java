@@ -5,7 +5,7 @@ final class ModelTest {
     private static final int RUNS = 400;
     private static final String[] CALLS = {
         "dream", "dream", "dream", "dreamIs", "dreamIs", "become", "as", "forgets", "person", "personIs", "personIs",
-        "takesTo", "clock", "clock", "feed", "text", "text", "untell", "law", "law", "hours", "loose", "seed", "rule",
+        "takesTo", "clock", "clock", "feed", "feed", "feed", "text", "untell", "law", "law", "hours", "loose", "seed", "rule",
         "rule", "now", "now", "then", "first", "siestas", "best", "fewest", "fewest", "odds", "fits", "fits", "voice",
         "voice", "body", "body", "sheet", "put", "put", "put", "move", "move", "wonts", "judge", "judge", "image",
         "restore", "tell", "tell", "check", "count", "told"};
@@ -31,6 +31,10 @@ final class ModelTest {
     private void run(Due due, int run) {
         for (int i = 0; i < 512; i++) {
             String name = CALLS[random.nextInt(CALLS.length)];
+            if (name.equals("restore") && random.nextInt(8) != 0) {
+                // what an old image takes back soon would leave a run with little in it
+                continue;
+            }
             long[] a = arguments(name);
             int want = model.call(name, a);
             int got = call(name, a);

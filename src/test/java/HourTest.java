@@ -1,0 +1,130 @@
+/** Promises 15 to 17: HOURS that go by, and DREAMS by DRAWS. */
+final class HourTest {
+    private static final Due DUE = new Due("HourTest");
+
+    public static void main(String[] args) {
+        hours();
+        held();
+        loose();
+        looseEdges();
+        seed();
+        DUE.end();
+    }
+
+    private static void hours() {
+        NoonLaw x = new NoonLaw();
+        x.dream(5, 0, 0);
+        x.dream(29, 11, 0);
+        x.person(1);
+        x.person(2);
+        DUE.is("hours(0)", x.hours(0), Due.BEYOND);
+        DUE.is("hours(241)", x.hours(241), Due.BEYOND);
+        DUE.is("hours(-1)", x.hours(-1), Due.BEYOND);
+        DUE.is("hours(12)", x.hours(12), 12);
+        DUE.is("the hour ahead of noon costs nothing", x.personIs(0, 1), 0);
+        DUE.is("hours(1)", x.hours(1), 13);
+        DUE.is("the hour that went by is fined", x.personIs(0, 1), 1);
+        DUE.is("hours(11)", x.hours(11), 24);
+        // banned 12 .. 21, bidden 14 .. 22
+        DUE.is("does 0, does not 1: personIs(0, 1)", x.personIs(0, 1), 19);
+        DUE.is("does 1, does not 0: personIs(1, 1)", x.personIs(1, 1), 0);
+        DUE.is("hours(240)", x.hours(240), 264);
+        x.clock(0, 9999 - 240);
+        DUE.is("hours(240) to 9999", x.hours(240), 9999);
+        DUE.is("hours(1) from 9999", x.hours(1), Due.STATE);
+        x.clock(0, 9998);
+        DUE.is("hours(2) from 9998", x.hours(2), Due.STATE);
+        DUE.is("BEYOND ahead of STATE", x.hours(0), Due.BEYOND);
+        DUE.is("count(2)", x.count(2), 9998);
+        DUE.is("told(3)", x.told(3), 2);
+    }
+
+    private static void held() {
+        NoonLaw x = new NoonLaw();
+        x.person(0);
+        Due.text(x, 0, "99");
+        x.hours(100);
+        DUE.is("99 a hundred times: personIs(0, 1)", x.personIs(0, 1), 9900);
+        x.hours(1);
+        DUE.is("held at 9999: personIs(0, 1)", x.personIs(0, 1), 9999);
+        x.hours(1);
+        DUE.is("held at 9999: personIs(0, 1)", x.personIs(0, 1), 9999);
+        Due.text(x, 0, "0-5");
+        x.hours(1);
+        DUE.is("no FINE gives back", x.personIs(0, 1), 9999);
+        DUE.is("nobody's TEXT for a later one", x.person(0), 1);
+        Due.text(x, 0, "n+h");
+        x.clock(0, 30);
+        x.hours(2);
+        DUE.is("n and h: personIs(1, 1)", x.personIs(1, 1), 1 + 6 + 1 + 7);
+    }
+
+    /** z from 1 on: 1103527590, 2524885223 and 662824084 as z make the draws. */
+    private static void loose() {
+        NoonLaw x = new NoonLaw();
+        DUE.is("loose(22)", x.loose(22), 0);
+        DUE.is("no draw ahead of SLEEP: count(7)", x.count(7), 1);
+        int z1 = 1 * 1103515245 + 12345;
+        int z2 = z1 * 1103515245 + 12345;
+        int z3 = z2 * 1103515245 + 12345;
+        DUE.is("loose(1)", x.loose(1), 1);
+        DUE.is("three draws: count(7)", x.count(7), z3);
+        int[] due = {(z1 >>> 8) % 7, (z3 >>> 8) % 20 / 2, (z2 >>> 8) % 10, (z3 >>> 8) % 20 % 2, 1, 0};
+        for (int what = 0; what < 6; what++) {
+            DUE.is("drawn: dreamIs(0, " + what + ")", x.dreamIs(0, what), due[what]);
+        }
+        DUE.is("count(2)", x.count(2), 23);
+        DUE.is("loose(23)", x.loose(23), 1);
+        DUE.is("loose(1)", x.loose(1), 2);
+        DUE.is("dreamIs(1, 4)", x.dreamIs(1, 4), 2);
+        NoonLaw y = new NoonLaw();
+        y.dream(0, 1, 0);
+        y.person(0);
+        y.loose(14);
+        DUE.is("AN HOUR goes by, too: personIs(0, 1)", y.personIs(0, 1), 2);
+    }
+
+    private static void looseEdges() {
+        NoonLaw x = new NoonLaw();
+        DUE.is("loose(0)", x.loose(0), Due.BEYOND);
+        DUE.is("loose(49)", x.loose(49), Due.BEYOND);
+        x.clock(1, 24);
+        DUE.is("SLEEP 24 is the hour 0", x.loose(1), 1);
+        DUE.is("of the next DAY: dreamIs(0, 4)", x.dreamIs(0, 4), 1);
+        DUE.is("loose(23)", x.loose(23), 1);
+        DUE.is("loose(48)", x.loose(48), 3);
+        for (int i = 0; i < 6; i++) {
+            x.dream(0, 0, 0);
+        }
+        int z = x.count(7);
+        DUE.is("nine are enough", x.loose(48), 9);
+        DUE.is("no draw then: count(7)", x.count(7), z);
+        NoonLaw y = new NoonLaw();
+        y.clock(0, 24 * 98 + 22);
+        DUE.is("DAY 99 is the last", y.loose(1), 1);
+        DUE.is("dreamIs(0, 4)", y.dreamIs(0, 4), 99);
+        y.clock(0, 24 * 99 + 22);
+        DUE.is("none of DAY 100", y.loose(1), 1);
+        y.clock(0, 9999 - 48);
+        DUE.is("loose(48) to 9999", y.loose(48), 1);
+        DUE.is("count(2)", y.count(2), 9999);
+        DUE.is("loose(1) from 9999", y.loose(1), Due.STATE);
+        DUE.is("BEYOND ahead of STATE", y.loose(49), Due.BEYOND);
+        y.clock(0, 9998);
+        DUE.is("loose(2) from 9998", y.loose(2), Due.STATE);
+        DUE.is("count(2)", y.count(2), 9998);
+    }
+
+    private static void seed() {
+        NoonLaw x = new NoonLaw();
+        DUE.is("seed(77)", x.seed(77), 1);
+        DUE.is("seed(LOW - 1)", x.seed(Due.BEYOND), 77);
+        DUE.is("count(7)", x.count(7), Due.BEYOND);
+        DUE.is("seed(-5)", x.seed(-5), Due.BEYOND);
+        DUE.is("no ERROR: told(1)", x.told(1), 0);
+        x.clock(0, 22);
+        x.loose(1);
+        int z1 = -5 * 1103515245 + 12345;
+        DUE.is("a draw is z >>> 8: dreamIs(0, 0)", x.dreamIs(0, 0), (z1 >>> 8) % 7);
+    }
+}
