@@ -987,7 +987,7 @@ public final class NoonLaw {
                     }
                 } else if (code == SIGN_CODE + '!') {
                     if (top >= 1) {
-                        stack[top - 1] = one(stack[top - 1] == 0);
+                        stack[top - 1] = stack[top - 1] == 0 ? 1 : 0;
                     }
                 } else if (top >= 2) {
                     top--;
@@ -1007,15 +1007,15 @@ public final class NoonLaw {
         private static int joined(int sign, int l, int r) {
             switch (sign) {
                 case '|':
-                    return one(l != 0 || r != 0);
+                    return l != 0 || r != 0 ? 1 : 0;
                 case '&':
-                    return one(l != 0 && r != 0);
+                    return l != 0 && r != 0 ? 1 : 0;
                 case '<':
-                    return one(l < r);
+                    return l < r ? 1 : 0;
                 case '=':
-                    return one(l == r);
+                    return l == r ? 1 : 0;
                 case '>':
-                    return one(l > r);
+                    return l > r ? 1 : 0;
                 case '+':
                     return l + r;
                 case '-':
@@ -1027,10 +1027,6 @@ public final class NoonLaw {
                 default:
                     return r == 0 ? 0 : l % r;
             }
-        }
-
-        private static int one(boolean is) {
-            return is ? 1 : 0;
         }
     }
 

@@ -6,6 +6,7 @@ final class HourTest {
         hours();
         held();
         loose();
+        drawn();
         looseEdges();
         seed();
         DUE.end();
@@ -52,14 +53,13 @@ final class HourTest {
         Due.text(x, 0, "0-5");
         x.hours(1);
         DUE.is("no FINE gives back", x.personIs(0, 1), 9999);
-        DUE.is("nobody's TEXT for a later one", x.person(0), 1);
+        DUE.is("one more: person(0)", x.person(0), 1);
         Due.text(x, 0, "n+h");
         x.clock(0, 30);
         x.hours(2);
         DUE.is("n and h: personIs(1, 1)", x.personIs(1, 1), 1 + 6 + 1 + 7);
     }
 
-    /** z from 1 on: 1103527590, 2524885223 and 662824084 as z make the draws. */
     private static void loose() {
         NoonLaw x = new NoonLaw();
         DUE.is("loose(22)", x.loose(22), 0);
@@ -82,6 +82,26 @@ final class HourTest {
         y.person(0);
         y.loose(14);
         DUE.is("AN HOUR goes by, too: personIs(0, 1)", y.personIs(0, 1), 2);
+    }
+
+    /** Of several seeds: whether a drawn DREAM is what its three draws say. */
+    private static void drawn() {
+        for (int seed = -20; seed < 20; seed++) {
+            NoonLaw x = new NoonLaw();
+            x.seed(seed);
+            x.clock(0, 22);
+            x.loose(1);
+            int z = seed;
+            int[] draws = new int[3];
+            for (int i = 0; i < 3; i++) {
+                z = z * 1103515245 + 12345;
+                draws[i] = z >>> 8;
+            }
+            int[] due = {draws[0] % 7, draws[2] % 20 / 2, draws[1] % 10, draws[2] % 2, 1, 0};
+            for (int what = 0; what < 6; what++) {
+                DUE.is("seed " + seed + ": dreamIs(0, " + what + ")", x.dreamIs(0, what), due[what]);
+            }
+        }
     }
 
     private static void looseEdges() {

@@ -155,6 +155,12 @@ final class ThoughtTest {
         DUE.is("best(17, 0)", x.best(17, 0), 9);
         x.clock(0, 19);
         DUE.is("from 19: best(240, 0)", x.best(240, 0), 1);
+        x.forgets(0, 1);
+        DUE.is("each time anew: best(240, 0)", x.best(240, 0), 0);
+        DUE.is("each time anew: best(240, 1)", x.best(240, 1), 0);
+        x.forgets(0, 0);
+        x.clock(0, 12);
+        DUE.is("the hour now: best(1, 0)", x.best(1, 0), 1);
         DUE.is("best(-1, 0)", x.best(-1, 0), Due.BEYOND);
         DUE.is("best(241, 0)", x.best(241, 0), Due.BEYOND);
         DUE.is("best(1, 2)", x.best(1, 2), Due.BEYOND);
@@ -174,6 +180,9 @@ final class ThoughtTest {
         DUE.is("fewest(0, 15, 0)", x.fewest(0, 15, 0), 3);
         DUE.is("fewest(0, 240, 1)", x.fewest(0, 240, 1), 7);
         DUE.is("another matter: fewest(1, 240, 0)", x.fewest(1, 240, 0), 0);
+        x.clock(0, 12);
+        DUE.is("the hour now: fewest(0, 1, 1)", x.fewest(0, 1, 1), 3);
+        x.clock(0, 0);
         x.forgets(1, 1);
         DUE.is("one is FORGOTTEN: fewest(0, 13, 1)", x.fewest(0, 13, 1), 1);
         DUE.is("one is FORGOTTEN: fewest(0, 240, 1)", x.fewest(0, 240, 1), 5);
