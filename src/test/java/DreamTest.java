@@ -13,6 +13,7 @@ final class DreamTest {
         falling();
         doze();
         blank();
+        lastDay();
         become();
         as();
         forgets();
@@ -85,6 +86,10 @@ final class DreamTest {
         DUE.is("WEIGHT by TEXT, twelve DAYS ahead", x.dreamIs(0, 7), 35);
         Due.text(x, 1, "d*9");
         DUE.is("WEIGHT is held", x.dreamIs(0, 7), -99);
+        x.clock(0, 24 * 23);
+        DUE.is("WEIGHT 99", x.dreamIs(0, 7), 99);
+        x.clock(0, 24 * 24);
+        DUE.is("WEIGHT is held above", x.dreamIs(0, 7), 99);
     }
 
     /** In which HOURS of the days 0 .. 5 a DREAM is IN FORCE. */
@@ -154,6 +159,20 @@ final class DreamTest {
         inForce("BLANK 0", 60, 1, 22);
     }
 
+    /** DAY 99 is the last of a DREAM, but not of the HOURS. */
+    private static void lastDay() {
+        int day = 24 * 99;
+        int[][] due = {{5, day + 11, 0}, {5, day + 12, 1}, {5, day + 21, 1}, {5, day + 22, 0}, {5, day + 36, 0},
+            {53, day + 23, 0}, {53, day + 24, 1}, {53, day + 26, 1}, {53, day + 27, 0}, {53, day + 48, 0},
+            {39, 12, 0}, {39, day - 12, 0}, {39, day + 12, 1}, {39, day + 36, 0}, {39, day + 252, 1}, {30, 9999, 1}};
+        for (int[] d : due) {
+            NoonLaw x = new NoonLaw();
+            x.dream(d[0], 1, 99);
+            x.clock(0, d[1]);
+            DUE.is("dream(" + d[0] + ", 1, 99) at " + d[1] + " is IN FORCE", x.dreamIs(0, 6), d[2]);
+        }
+    }
+
     private static void become() {
         NoonLaw x = new NoonLaw();
         x.dream(5, 71, 3);
@@ -203,13 +222,14 @@ final class DreamTest {
         DUE.is("forgets(-1, 0)", x.forgets(-1, 0), Due.BEYOND);
         DUE.is("forgets(0, 0) again", x.forgets(0, 0), 1);
         DUE.is("dreamIs(0, 6)", x.dreamIs(0, 6), 1);
-        x.forgets(0, 1);
         for (int kind = 0; kind < 7; kind++) {
-            x.become(0, 10 * kind + 9);
+            NoonLaw y = new NoonLaw();
+            y.dream(10 * kind + 9, 0, 0);
+            y.forgets(0, 1);
             int found = 0;
             for (int hour = 0; hour < 48; hour++) {
-                x.clock(0, hour);
-                found += x.dreamIs(0, 6);
+                y.clock(0, hour);
+                found += y.dreamIs(0, 6);
             }
             DUE.is("a FORGOTTEN one of KIND " + kind, found, 0);
         }

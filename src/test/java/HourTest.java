@@ -5,6 +5,8 @@ final class HourTest {
     public static void main(String[] args) {
         hours();
         held();
+        looseHeld();
+        six();
         loose();
         drawn();
         looseEdges();
@@ -58,6 +60,37 @@ final class HourTest {
         x.clock(0, 30);
         x.hours(2);
         DUE.is("n and h: personIs(1, 1)", x.personIs(1, 1), 1 + 6 + 1 + 7);
+    }
+
+    private static void looseHeld() {
+        NoonLaw x = new NoonLaw();
+        x.person(0);
+        x.clock(0, 24 * 100);
+        Due.text(x, 0, "99");
+        x.hours(100);
+        x.loose(1);
+        DUE.is("held at 9999 by draws: personIs(0, 1)", x.personIs(0, 1), 9999);
+        x.loose(48);
+        DUE.is("held at 9999 by draws: personIs(0, 1)", x.personIs(0, 1), 9999);
+    }
+
+    /** As many PEOPLE and DREAMS as there are room for, each fined for what is one's own. */
+    private static void six() {
+        NoonLaw x = new NoonLaw();
+        for (int i = 0; i < 9; i++) {
+            x.dream(5, 10 * i, 0);
+        }
+        for (int i = 0; i < 6; i++) {
+            x.person((1 << 2 * i) - 1);
+        }
+        x.clock(0, 12);
+        x.hours(2);
+        x.loose(1);
+        int[] guilt = {0, 2, 4, 6, 8, 9};
+        for (int i = 0; i < 6; i++) {
+            DUE.is("three hours of " + guilt[i] + ": personIs(" + i + ", 1)", x.personIs(i, 1), 3 * guilt[i]);
+            DUE.is("then(" + i + ", 240)", x.then(i, 240), 10 * guilt[i]);
+        }
     }
 
     private static void loose() {
@@ -124,9 +157,15 @@ final class HourTest {
         DUE.is("DAY 99 is the last", y.loose(1), 1);
         DUE.is("dreamIs(0, 4)", y.dreamIs(0, 4), 99);
         y.clock(0, 24 * 99 + 22);
+        z = y.count(7);
         DUE.is("none of DAY 100", y.loose(1), 1);
+        DUE.is("no draw for it: count(7)", y.count(7), z);
+        y.clock(1, 13);
+        y.clock(0, 24 * 98 + 13);
+        DUE.is("SLEEP 13 is the hour 13", y.loose(1), 2);
+        y.clock(1, 22);
         y.clock(0, 9999 - 48);
-        DUE.is("loose(48) to 9999", y.loose(48), 1);
+        DUE.is("loose(48) to 9999", y.loose(48), 2);
         DUE.is("count(2)", y.count(2), 9999);
         DUE.is("loose(1) from 9999", y.loose(1), Due.STATE);
         DUE.is("BEYOND ahead of STATE", y.loose(49), Due.BEYOND);

@@ -5,6 +5,8 @@ final class ImageTest {
     public static void main(String[] args) {
         image();
         notInIt();
+        anewBehindIt();
+        everythingInIt();
         tell();
         check();
         count();
@@ -90,6 +92,66 @@ final class ImageTest {
         DUE.is("what told() tells is not in it: told(2)", x.told(2), 1);
     }
 
+    /** What is made behind restore() is as at first, though something else stood in its place. */
+    private static void anewBehindIt() {
+        NoonLaw x = new NoonLaw();
+        DUE.is("the image of nothing", x.image(), 1);
+        x.dream(49, 31, 7);
+        x.forgets(0, 1);
+        x.person(1023);
+        Due.text(x, 0, "99");
+        x.hours(2);
+        x.tell(5);
+        DUE.is("restore() to nothing", x.restore(), 0);
+        DUE.is("nobody: personIs(0, 0)", x.personIs(0, 0), Due.BEYOND);
+        DUE.is("no DREAM: dreamIs(0, 0)", x.dreamIs(0, 0), Due.BEYOND);
+        DUE.is("no TEXT: untell(0)", x.untell(0), 0);
+        DUE.is("dream(5, 1, 0)", x.dream(5, 1, 0), 0);
+        int[] dream = {0, 5, 0, 1, 0, 0, 0, 5};
+        for (int what = 0; what < dream.length; what++) {
+            DUE.is("anew: dreamIs(0, " + what + ")", x.dreamIs(0, what), dream[what]);
+        }
+        DUE.is("person(6)", x.person(6), 0);
+        DUE.is("anew: personIs(0, 0)", x.personIs(0, 0), 6);
+        DUE.is("anew: personIs(0, 1)", x.personIs(0, 1), 0);
+        DUE.is("tell(0)", x.tell(0), 1);
+        DUE.is("check()", x.check(), 0);
+    }
+
+    /** An object that is full comes back whole, and its numbers, bytes and names in their order. */
+    private static void everythingInIt() {
+        NoonLaw x = World.full(false);
+        String seen = World.look(x);
+        x.image();
+        x.check();
+        for (int i = 0; i < 24; i++) {
+            x.tell(-i);
+        }
+        Due.feed(x, "+5");
+        x.text(1);
+        Due.feed(x, "9".repeat(60));
+        for (int i = 0; i < World.DREAMS; i++) {
+            x.become(i, 69 - i);
+            x.forgets(i, 1 - x.dreamIs(i, 5));
+        }
+        for (int i = 0; i < World.PEOPLE; i++) {
+            x.takesTo(i, 512);
+        }
+        x.hours(2);
+        x.clock(0, 50);
+        x.clock(1, 13);
+        x.untell(0);
+        x.seed(0);
+        DUE.is("restore() of all", x.restore(), World.HOUR);
+        DUE.is("all is as it was", seen.equals(World.look(x)) ? 1 : 0, 1);
+        DUE.is("what waits is as it was", x.check(), World.PEOPLE + 1);
+        DUE.is("THE TAPE is as it was", x.text(0), 1);
+        DUE.is("THE TAPE's law", x.law(0, 0, 0, 0), 29);
+        DUE.is("the same IMAGE again", x.restore(), World.HOUR);
+        DUE.is("what waits, again", x.check(), World.PEOPLE + 1);
+        DUE.is("THE TAPE, again", x.text(1), 1);
+    }
+
     private static void tell() {
         NoonLaw x = new NoonLaw();
         for (int i = 1; i <= 24; i++) {
@@ -126,6 +188,26 @@ final class ImageTest {
         x.tell(0);
         x.tell(0);
         DUE.is("there is nobody: check()", x.check(), 3);
+        x.tell(0);
+        x.tell(0);
+        x.tell(0);
+        DUE.is("the first that isn't so, of three: check()", x.check(), 1);
+        NoonLaw none = new NoonLaw();
+        none.tell(0);
+        DUE.is("nobody at all: check()", none.check(), 1);
+        NoonLaw wild = new NoonLaw();
+        wild.person(0);
+        wild.tell(Integer.MIN_VALUE);
+        DUE.is("MIN is nobody's: check()", wild.check(), 1);
+        wild.tell(65536);
+        DUE.is("no bits are lost: check()", wild.check(), 1);
+        NoonLaw six = new NoonLaw();
+        for (int i = 0; i < 6; i++) {
+            six.person(0);
+            six.tell(0);
+        }
+        six.tell(0);
+        DUE.is("six are so, of a seventh there is nobody: check()", six.check(), 7);
         DUE.is("none waits any more: check()", x.check(), 0);
     }
 

@@ -6,6 +6,7 @@ final class SheetTest {
         sheet();
         put();
         move();
+        wholeSheet();
         moveErrors();
         wonts();
         judge();
@@ -103,6 +104,36 @@ final class SheetTest {
         DUE.is("none, at the end", x.move(0, 5, 1, 3, 0), 0);
         DUE.is("all", x.move(1, 0, 0, 2, 3), 3);
         holds(x, "all", 0, 1, 2, 2, 3, 13);
+        DUE.is("onto itself", x.move(0, 0, 0, 0, 5), 5);
+        holds(x, "onto itself", 0, 1, 2, 2, 3, 13);
+        DUE.is("none, within one", x.move(0, 5, 0, 5, 0), 0);
+        DUE.is("behind the end: move(0, 6, 0, 0, 0)", x.move(0, 6, 0, 0, 0), Due.BEYOND);
+        holds(x, "none", 0, 1, 2, 2, 3, 13);
+    }
+
+    /** As many numbers as a SHEET holds. */
+    private static void wholeSheet() {
+        for (int bits = 8; bits <= 32; bits *= 2) {
+            NoonLaw x = new NoonLaw();
+            for (int i = 0; i < 6; i++) {
+                x.person(9);
+            }
+            x.sheet(0, bits, 24);
+            x.sheet(1, bits, 24);
+            for (int i = 0; i < 24; i++) {
+                DUE.is("put(0, " + i + ", ..) of 24", x.put(0, i, 100 + i), 1);
+            }
+            DUE.is("put(0, 24, ..) of 24", x.put(0, 24, 1), Due.BEYOND);
+            DUE.is("move(0, 0, 1, 0, 24)", x.move(0, 0, 1, 0, 24), 24);
+            DUE.is("move(1, 1, 1, 0, 23)", x.move(1, 1, 1, 0, 23), 23);
+            DUE.is("move(1, 17, 1, 0, 6)", x.move(1, 17, 1, 0, 6), 6);
+            DUE.is("of 24 numbers six are WONTS: wonts(1)", x.wonts(1), 6);
+            for (int i = 0; i < 6; i++) {
+                DUE.is("of " + bits + " bits: personIs(" + i + ", 0)", x.personIs(i, 0), Math.min(123, 118 + i));
+            }
+            DUE.is("move(1, 0, 0, 1, 24)", x.move(1, 0, 0, 1, 24), Due.BEYOND);
+            DUE.is("move(1, 0, 0, 0, 25)", x.move(1, 0, 0, 0, 25), Due.BEYOND);
+        }
     }
 
     private static void moveErrors() {
@@ -152,6 +183,16 @@ final class SheetTest {
         DUE.is("no ERROR: told(1)", x.told(1), 2);
         x.sheet(0, 32, 0);
         DUE.is("none at all: wonts(0)", x.wonts(0), 0);
+        NoonLaw y = new NoonLaw();
+        row(y, 0, 1, 2);
+        DUE.is("nobody at all: wonts(0)", y.wonts(0), 0);
+        y.person(4);
+        y.sheet(0, 32, 1);
+        y.put(0, 0, 65536);
+        DUE.is("up to 65536: wonts(0)", y.wonts(0), 0);
+        y.put(0, 0, Integer.MIN_VALUE);
+        DUE.is("up to MIN: wonts(0)", y.wonts(0), 0);
+        DUE.is("personIs(0, 0)", y.personIs(0, 0), 4);
     }
 
     private static void judge() {
@@ -172,5 +213,14 @@ final class SheetTest {
         DUE.is("ten MATTERS: judge(0)", x.judge(0), 10);
         x.clock(0, 22);
         DUE.is("at 22: judge(0)", x.judge(0), 0);
+        x.sheet(0, 8, 24);
+        for (int i = 0; i < 24; i++) {
+            x.put(0, i, -1);
+        }
+        DUE.is("24 numbers, ten MATTERS: judge(0)", x.judge(0), 10);
+        x.put(0, 9, 0);
+        DUE.is("the last MATTER is wrong: judge(0)", x.judge(0), 9);
+        x.sheet(0, 32, 0);
+        DUE.is("none at all: judge(0)", x.judge(0), 0);
     }
 }

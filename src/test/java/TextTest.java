@@ -119,7 +119,7 @@ final class TextTest {
 
     private static void value(String signs, int g, int h, int n, int due) {
         NoonLaw x = new NoonLaw();
-        Due.text(x, 0, signs);
+        DUE.is("text(0) of " + signs, Due.text(x, 0, signs), 1);
         DUE.is(signs + " of " + g + ", " + h + ", " + n, x.law(0, g, h, n), due);
     }
 
@@ -152,9 +152,28 @@ final class TextTest {
         value("g/h=g", Integer.MIN_VALUE, -1, 0, 1);
         value("g%h+5", Integer.MIN_VALUE, -1, 0, 5);
         value("g+1=h", Integer.MAX_VALUE, Integer.MIN_VALUE, 0, 1);
+        value("g-1=h", Integer.MIN_VALUE, Integer.MAX_VALUE, 0, 1);
+        value("0-g=g", Integer.MIN_VALUE, 0, 0, 1);
+        value("g*3=h", Integer.MAX_VALUE, Integer.MAX_VALUE - 2, 0, 1);
+        value("g<h", Integer.MIN_VALUE, Integer.MAX_VALUE, 0, 1);
+        value("g>h", Integer.MIN_VALUE, Integer.MAX_VALUE, 0, 0);
+        value("g>h", Integer.MAX_VALUE, Integer.MIN_VALUE, 0, 1);
+        value("5/(g-g)", 3, 0, 0, 0);
+        value("5%(g-g)", 3, 0, 0, 0);
+        value("1/0|1", 0, 0, 0, 1);
+        value("0&1/0", 0, 0, 0, 0);
         value("g*g", 65536, 0, 0, 0);
         value("1|0&0", 0, 0, 0, 1);
         value("(1|0)&0", 0, 0, 0, 0);
+        value("(g|h)*7", 0, 2, 0, 7);
+        value("(g&h)+5", 1, 2, 0, 6);
+        value("!(g=h)", 1, 2, 0, 1);
+        value("(g<h)<2", 1, 2, 0, 1);
+        value("!!!!!g", 0, 0, 0, 1);
+        value("(((((g+1)))))*2", 4, 0, 0, 10);
+        value("!1" + "+1".repeat(29), 0, 0, 0, 29);
+        value("9-(1" + "+0".repeat(27) + ")", 0, 0, 0, 8);
+        value("0-" + "1*".repeat(28) + "g", -6, 0, 0, 6);
         value("1+2=3", 0, 0, 0, 1);
         value("2<3&4", 0, 0, 0, 1);
         value("!g+4", 0, 0, 0, 5);
@@ -164,7 +183,11 @@ final class TextTest {
         value("n", 3, 4, 5, 5);
         value("0099", 0, 0, 0, 99);
         value("9999/101", 0, 0, 0, 99);
+        value("99", 0, 0, 0, 99);
         value("100", 0, 0, 0, 99);
+        value("9999", 0, 0, 0, 99);
+        value("9999*9999*9999<0", 0, 0, 0, 1);
+        value("0", 0, 0, 0, 0);
         value("0-1", 0, 0, 0, 0);
     }
 

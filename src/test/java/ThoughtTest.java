@@ -12,6 +12,8 @@ final class ThoughtTest {
         fewest();
         odds();
         fits();
+        beyondTheLastHour();
+        weightsOfThatHour();
         onlyThought();
         DUE.end();
     }
@@ -203,8 +205,28 @@ final class ThoughtTest {
         for (int i = 3; i < 9; i++) {
             y.dream(i, 91, 0);
         }
-        DUE.is("all nine: fewest(9, 24, 1)", y.fewest(9, 24, 1), 504);
+        DUE.is("six of a side: fewest(9, 24, 1)", y.fewest(9, 24, 1), 504);
         DUE.is("fewest(9, 24, 0)", y.fewest(9, 24, 0), 6);
+        fewestInTurn();
+    }
+
+    /** DREAMS that bid and ban in turn, each a little lighter: what is forgotten lets the next one hold. */
+    private static void fewestInTurn() {
+        NoonLaw x = new NoonLaw();
+        x.clock(0, 12);
+        for (int i = 0; i < 9; i++) {
+            x.dream(9 - i, i % 2, 0);
+        }
+        DUE.is("all nine: fewest(0, 1, 0)", x.fewest(0, 1, 0), 9);
+        DUE.is("all nine: fewest(0, 1, 1)", x.fewest(0, 1, 1), 511);
+        x.become(7, 1);
+        DUE.is("up to two that are alike: fewest(0, 1, 1)", x.fewest(0, 1, 1), 127);
+        x.forgets(3, 1);
+        DUE.is("one is FORGOTTEN: fewest(0, 1, 1)", x.fewest(0, 1, 1), 127 - 8);
+        for (int i = 0; i < 9; i++) {
+            x.forgets(i, 1);
+        }
+        DUE.is("all are FORGOTTEN: fewest(0, 240, 1)", x.fewest(0, 240, 1), 0);
     }
 
     private static void odds() {
@@ -224,6 +246,17 @@ final class ThoughtTest {
         DUE.is("12 of 48: odds(4, 0, 1)", x.odds(4, 0, 1), 4);
         x.clock(0, 40);
         DUE.is("8 of 48: odds(4, 0, 1)", x.odds(4, 0, 1), 6);
+        NoonLaw y = new NoonLaw();
+        y.dream(14, 0, 2);
+        y.clock(0, 60 - 47);
+        DUE.is("47 on is the last: odds(0, 0, 0)", y.odds(0, 0, 0), 1);
+        DUE.is("47 on is the last: odds(0, 0, 1)", y.odds(0, 0, 1), 48);
+        y.clock(0, 60 - 48);
+        DUE.is("48 on is too far: odds(0, 0, 0)", y.odds(0, 0, 0), 0);
+        y.clock(0, 65);
+        DUE.is("now is the first: odds(0, 0, 0)", y.odds(0, 0, 0), 1);
+        y.clock(0, 66);
+        DUE.is("what is over: odds(0, 0, 0)", y.odds(0, 0, 0), 0);
         DUE.is("odds(10, 0, 0)", x.odds(10, 0, 0), Due.BEYOND);
         DUE.is("odds(-1, 0, 0)", x.odds(-1, 0, 0), Due.BEYOND);
         DUE.is("odds(0, 2, 0)", x.odds(0, 2, 0), Due.BEYOND);
@@ -273,6 +306,64 @@ final class ThoughtTest {
         DUE.is("240 is near enough: fits(1)", x.fits(1), 240);
         x.clock(0, 24 * 11 + 12 - 241);
         DUE.is("241 is not: fits(1)", x.fits(1), Due.NONE);
+    }
+
+    /** At 9999 it is 15 of a day; the hours behind it are thought of all the same. */
+    private static void beyondTheLastHour() {
+        NoonLaw x = new NoonLaw();
+        x.dream(30, 1, 0);
+        x.dream(39, 10, 7);
+        x.dream(30, 20, 0);
+        x.dream(30, 21, 0);
+        x.person(0);
+        x.clock(0, 9999);
+        DUE.is("at 9999: first(0, 1)", x.first(0, 1), 0);
+        DUE.is("at 9999: first(0, -1)", x.first(0, -1), 7);
+        DUE.is("at 9999: first(1, 0)", x.first(1, 0), 21);
+        DUE.is("at 9999: rule(0, 240)", x.rule(0, 240), 1);
+        DUE.is("at 9999: rule(1, 30)", x.rule(1, 30), 0);
+        DUE.is("at 9999: rule(1, 31)", x.rule(1, 31), -1);
+        DUE.is("at 9999: siestas(1)", x.siestas(1), 1);
+        DUE.is("at 9999: siestas(240)", x.siestas(240), 100);
+        DUE.is("at 9999: then(0, 22)", x.then(0, 22), 8);
+        x.dream(39, 31, 7);
+        DUE.is("at 9999: best(21, 0)", x.best(21, 0), 1);
+        DUE.is("at 9999: best(22, 0)", x.best(22, 0), 9);
+        DUE.is("at 9999: best(22, 1)", x.best(22, 1), 0);
+        DUE.is("at 9999: fewest(1, 21, 0)", x.fewest(1, 21, 0), 0);
+        DUE.is("at 9999: fewest(1, 22, 1)", x.fewest(1, 22, 1), 2);
+        DUE.is("at 9999: odds(0, 1, 0)", x.odds(0, 1, 0), 5);
+        DUE.is("at 9999: odds(0, 1, 1)", x.odds(0, 1, 1), 12);
+        x.sheet(0, 8, 2);
+        x.put(0, 0, 1);
+        DUE.is("at 9999: fits(0)", x.fits(0), 21);
+        DUE.is("HOUR stays: count(2)", x.count(2), 9999);
+    }
+
+    /** How many DAYS on counts as of the hour thought of: banned on day 0, bidden on day 10, by the same DREAMS. */
+    private static void weightsOfThatHour() {
+        NoonLaw x = new NoonLaw();
+        x.dream(30, 1, 0);
+        x.dream(39, 0, 0);
+        x.dream(5, 11, 3);
+        x.dream(5, 10, 3);
+        DUE.is("a WEIGHT by DAYS on", Due.text(x, 1, "d*(m=0)+4*(m=9)"), 1);
+        x.person(1);
+        x.clock(0, 12);
+        DUE.is("rule(0, 0)", x.rule(0, 0), 0);
+        DUE.is("rule(0, 24)", x.rule(0, 24), 1);
+        DUE.is("rule(0, 240)", x.rule(0, 240), 1);
+        DUE.is("now(3)", x.now(3), 1);
+        DUE.is("then(0, 10)", x.then(0, 10), 10);
+        DUE.is("then(0, 240)", x.then(0, 240), 10);
+        DUE.is("fewest(0, 1, 1)", x.fewest(0, 1, 1), 3);
+        DUE.is("fewest(0, 240, 1)", x.fewest(0, 240, 1), 3);
+        x.clock(0, 252);
+        DUE.is("on day 10: rule(0, 0)", x.rule(0, 0), 1);
+        DUE.is("on day 10: now(3)", x.now(3), 1);
+        x.clock(0, 72);
+        DUE.is("on day 3, alike: rule(1, 12)", x.rule(1, 12), -1);
+        DUE.is("on day 3, alike: siestas(24)", x.siestas(24), 10);
     }
 
     private static void onlyThought() {

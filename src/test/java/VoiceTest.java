@@ -88,6 +88,13 @@ final class VoiceTest {
         DUE.is("another voice: voice(1, 0, 5)", x.voice(1, 0, 5), 2);
     }
 
+    /** Of the DREAM 0, of a KIND and m. */
+    private static void wrap(int kind, int m, int voice, int x, int due) {
+        NoonLaw law = new NoonLaw();
+        law.dream(10 * kind + m, 0, 0);
+        DUE.is("a " + kind + " with " + m + ": voice(0, " + voice + ", " + x + ")", law.voice(0, voice, x), due);
+    }
+
     private static void wraps() {
         NoonLaw x = new NoonLaw();
         x.dream(0, 0, 0);
@@ -97,6 +104,14 @@ final class VoiceTest {
         DUE.is("MIN by -1: voice(1, 3, MIN)", x.voice(1, 3, Integer.MIN_VALUE), Integer.MIN_VALUE);
         DUE.is("any number is no ERROR: voice(0, 0, LOW - 2)", x.voice(0, 0, Due.NONE), Due.NONE);
         DUE.is("told(2)", x.told(2), 0);
+        wrap(0, 3, 3, Integer.MAX_VALUE, 715827882);
+        wrap(0, 5, 2, 1 << 30, Integer.MAX_VALUE - 4);
+        wrap(1, 5, 0, Integer.MIN_VALUE, Integer.MAX_VALUE - 3);
+        wrap(2, 5, 1, 1 << 30, Integer.MIN_VALUE);
+        wrap(4, 5, 0, 1 << 30, (1 << 30) * 3 - 12);
+        wrap(5, 5, 1, Integer.MAX_VALUE, 0);
+        x.become(1, 10);
+        DUE.is("MIN by -1, and sighs(1): voice(1, 3, MIN)", x.voice(1, 3, Integer.MIN_VALUE), Integer.MAX_VALUE - 3);
         x.become(0, 30);
         DUE.is("-7 by 2 is cut: voice(0, 2, -7)", x.voice(0, 2, -7), -6);
     }
